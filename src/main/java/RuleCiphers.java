@@ -151,7 +151,7 @@ public final class RuleCiphers {
 
     private static void requireInBuffer(int from, int many) {
         // Where many is 0 there is no byte that could lie outside, so from may be any number.
-        boolean outside = many > 0 && (from < 0 || from >= BUFFER_BYTES || many > BUFFER_BYTES - from);
+        boolean outside = many > 0 && (from < 0 || many > BUFFER_BYTES - from);
         if (many < 0 || outside) {
             throw new IndexOutOfBoundsException("not all of the bytes are in the buffer");
         }

@@ -202,14 +202,15 @@ final class ContextTest {
         }
         for (int context = 0; context < 4; context++) {
             RuleCiphers alone = Cabinet.keyed(0, 2, context, 1);
-            Check.same("6: each context has a key of its own", alone.block(0, false, 5), cabinet.block(context, false, 5));
+            long due = alone.block(0, false, 5);
+            Check.same("6: each context has a key of its own", due, cabinet.block(context, false, 5));
         }
         cabinet.mode(0, 4, 0);
         cabinet.mode(1, 5, 0);
         cabinet.free(2);
-        int[] due = {RuleCiphers.SET, RuleCiphers.SET, RuleCiphers.FREE, RuleCiphers.KEYED};
+        int[] stages = {RuleCiphers.SET, RuleCiphers.SET, RuleCiphers.FREE, RuleCiphers.KEYED};
         for (int context = 0; context < 4; context++) {
-            Check.same("6: each context has a stage of its own", due[context], cabinet.stage(context));
+            Check.same("6: each context has a stage of its own", stages[context], cabinet.stage(context));
         }
         cabinet.mode(3, 4, 0);
         cabinet.feed(0, false, 0, 5);
