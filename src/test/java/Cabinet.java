@@ -2,7 +2,6 @@
 final class Cabinet {
     static final long FIRST = 0x0123456789abcdefL;
     static final long SECOND = 0xfedcba9876543210L;
-    static final int[] NO_CONTEXTS = {-1, 4, 5, Integer.MIN_VALUE, Integer.MAX_VALUE};
 
     private Cabinet() {
     }
@@ -20,6 +19,15 @@ final class Cabinet {
         return cabinet;
     }
 
+    /** E with the tests' own key, made of block() on an object of its own. */
+    static long on(int cipher, long block) {
+        return keyed(0, cipher, FIRST, SECOND).block(0, false, block);
+    }
+
+    static long back(int cipher, long block) {
+        return keyed(0, cipher, FIRST, SECOND).block(0, true, block);
+    }
+
     /** Fills the whole buffer with bytes that all differ. */
     static void fill(RuleCiphers cabinet) {
         for (int place = 0; place < 64; place++) {
@@ -28,19 +36,19 @@ final class Cabinet {
     }
 
     static int filling(int place) {
-        return place * 37 + 11 & 255;
+        return (place * 37 + 11) & 255;
     }
 
     static void putBlock(RuleCiphers cabinet, int at, long block) {
         for (int i = 0; i < 8; i++) {
-            cabinet.put(at + i, (int) (block >>> 56 - 8 * i));
+            cabinet.put(at + i, (int) (block >>> (56 - 8 * i)));
         }
     }
 
     static long blockAt(RuleCiphers cabinet, int at) {
         long block = 0;
         for (int i = 0; i < 8; i++) {
-            block = block << 8 | cabinet.get(at + i);
+            block = (block << 8) | cabinet.get(at + i);
         }
         return block;
     }
@@ -54,6 +62,6 @@ final class Cabinet {
     }
 
     static int byteOf(long block, int i) {
-        return (int) (block >>> 56 - 8 * i) & 255;
+        return (int) (block >>> (56 - 8 * i)) & 255;
     }
 }

@@ -34,34 +34,21 @@ final class Check {
         same(what, "IndexOutOfBoundsException", outcome(act));
     }
 
-    static void badArgument(String what, Act act) {
-        same(what, "IllegalArgumentException", outcome(act));
-    }
-
     static void badState(String what, Act act) {
         same(what, "IllegalStateException", outcome(act));
-    }
-
-    static void fine(String what, Act act) {
-        same(what, "nothing thrown", outcome(act));
     }
 
     private static String outcome(Act act) {
         return outcome(() -> {
             act.run();
             return 0;
-        }, "nothing thrown");
+        });
     }
 
     /** The answer as a text, or the exact class of what was thrown. */
     static String outcome(Call call) {
-        return outcome(call, null);
-    }
-
-    private static String outcome(Call call, String instead) {
         try {
-            long answer = call.answer();
-            return instead == null ? Long.toString(answer) : instead;
+            return Long.toString(call.answer());
         } catch (RuntimeException thrown) {
             return thrown.getClass().getSimpleName();
         }

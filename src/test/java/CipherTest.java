@@ -1,16 +1,49 @@
-/** Promises 7 and 8: block and word, with test vectors that the ciphers' own papers publish. */
+/**
+ * Promises 7 and 8: block and word. Beside what the ciphers' own papers publish stand blocks and keys at the ends,
+ * whose answers come from a third writing of the document, in another language.
+ */
 final class CipherTest {
     private static final int[] WORD_COUNTS = {26, 4, 27, 44, 52};
 
+    /** What each row of AT_THE_ENDS is ON of, from left to right. */
+    private static final long[] BLOCKS = {0, -1, Long.MIN_VALUE, 1};
+
+    /** The keys of each cipher's four rows of AT_THE_ENDS. */
+    private static final long[][] KEYS = {{0, 0}, {-1, -1}, {Long.MIN_VALUE, 0}, {0, 1}};
+
+    private static final long[][] AT_THE_ENDS = {
+        {0x21a5dbee154b8f6dL, 0xca9e714c1fff3e59L, 0x4fa2d5ee39b74137L, 0xaaf64681e2ac59b1L},
+        {0x34dd75a2918743b2L, 0x778769e9be0167b7L, 0x299cfa01ee61713bL, 0xd16674a5982a30f8L},
+        {0x8f681d7f285cdc2fL, 0x407620d10d595ba4L, 0xcf40376f17856704L, 0x176b7b35fe8723feL},
+        {0x52489bf5f14f98d2L, 0x9fab8453b85d1191L, 0x06a82a3a9097040bL, 0x5ff782778d9951a0L},
+        {0xdee9d4d8f7131ed9L, 0x964213b6a97c8c59L, 0x37a3cbd9f11c28d5L, 0x47186468d1d2343dL},
+        {0x1714a59c330459c6L, 0x28fc2891e623566aL, 0x9fcda70dc9a59142L, 0x26f07e034b235da4L},
+        {0x057e8c0550151937L, 0xc4361d572d54c2deL, 0x04da5582d93ef309L, 0xefcf8147c67ae485L},
+        {0x5bac83ce2b9dd3ccL, 0xfc210c57ed454743L, 0xc92530efa0b0cf6fL, 0x9f25fa5b0f86b758L},
+        {0x680448d5272f692cL, 0x0933367859ecaf93L, 0x3516e16315ec08fbL, 0x21db61dbf7c4795bL},
+        {0xd5498d3fe9e74226L, 0x0a819fbb830d3e90L, 0xb411fb69cca58037L, 0x9ff0c9024e9a1ec7L},
+        {0xf13cee38bab123fbL, 0x76f3e67298332ccbL, 0x7a4640023096de5dL, 0xcdc3376b73271e2cL},
+        {0xa51175411dcf0502L, 0x6f242b6360cce4c0L, 0x502e9686ecd94c51L, 0x79b748df681f10e6L},
+        {0xedf1be0a54d9bf51L, 0xccc468fd2553cacbL, 0x5b9bf6f32eed5465L, 0xcfc350400903f259L},
+        {0x86274bb182bc77e6L, 0xdb15e84a8daff32aL, 0x399fd2a4b841b1f5L, 0xa8f9445da39c34a4L},
+        {0x7610aaa67791511eL, 0x7cb1c9f8f91a230dL, 0x0d824b0913136e35L, 0xdb70ef47bbef3ef0L},
+        {0xb3a7fcb6dbb04ce9L, 0xd7ad02d748eb1ac6L, 0x1338f5c6d1382456L, 0x351894fe5f2c56f4L},
+        {0x0001000100000000L, 0x00020002fffbfffbL, 0x8001000180008000L, 0x0013fff500120009L},
+        {0xdbaab15d54844fe7L, 0xcd1ab2c1211041fbL, 0x2fae28a196212a5cL, 0x66677e421d0b620cL},
+        {0xb1f5f7f87901370fL, 0x4e570eea0f80ca7aL, 0x99f175ff0d001614L, 0xcc11c822b04757b9L},
+        {0xc57adbde27bc26cfL, 0x1263d062ae2a1790L, 0x3e7ad3de4dbcbbcfL, 0x162187ec7f589d49L}};
+
     public static void main(String[] args) {
         published();
-        publishedWords();
-        ideaZeros();
+        blocksAndKeysAtTheEnds();
         backUndoesOn();
-        blockLeavesTheMode();
-        blockWrongly();
-        wordEnds();
-        wordWrongly();
+        backUndoesOnWhereProductsMeetZero();
+        blockWhenKeyedAndWhenSet();
+        blockChangesNothing();
+        firstAndLastWord();
+        noSuchWord();
+        wordWhenKeyedAndWhenSet();
+        wordChangesNothing();
         Check.end();
     }
 
@@ -30,113 +63,114 @@ final class CipherTest {
         RuleCiphers cabinet = Cabinet.keyed(1, cipher, first, second);
         Check.same("7: cipher " + cipher + " on", hidden, cabinet.block(1, false, plain));
         Check.same("7: cipher " + cipher + " back", plain, cabinet.block(1, true, hidden));
-        cabinet.mode(1, 5, 3);
-        Check.same("7: on when SET", hidden, cabinet.block(1, false, plain));
-        Check.same("7: back when SET", plain, cabinet.block(1, true, hidden));
     }
 
-    private static void publishedWords() {
-        RuleCiphers zero = Cabinet.keyed(0, 0, 0, 0);
-        Check.same("8: S0 of the key of zeros", 0x9bbbd8c8, zero.word(0, 0));
-        RuleCiphers idea = Cabinet.keyed(0, 4, 0x0001000200030004L, 0x0005000600070008L);
-        int[] due = {1, 2, 3, 4, 5, 6, 7, 8, 0x400, 0x600, 0x800, 0xa00, 0xc00, 0xe00, 0x1000, 0x200};
-        for (int i = 0; i < due.length; i++) {
-            Check.same("8: K" + i, due[i], idea.word(0, i));
-        }
-        RuleCiphers high = Cabinet.keyed(0, 4, -1, -1);
-        for (int i = 0; i < 52; i++) {
-            Check.same("8: words of cipher 4 have 16 bits", 0xffff, high.word(0, i));
-        }
-        for (int cipher = 2; cipher < 4; cipher++) {
-            RuleCiphers cabinet = Cabinet.keyed(0, cipher, Cabinet.FIRST, Cabinet.SECOND);
-            Check.same("8: T0 is the key's last quarter", 0x76543210, cabinet.word(0, 0));
+    private static void blocksAndKeysAtTheEnds() {
+        for (int row = 0; row < AT_THE_ENDS.length; row++) {
+            long[] key = KEYS[row % 4];
+            for (int i = 0; i < BLOCKS.length; i++) {
+                vector(row / 4, key[0], key[1], BLOCKS[i], AT_THE_ENDS[row][i]);
+            }
         }
     }
 
-    /** 0 stands for 65536 in every product of cipher 4, also where BACK needs its inverse. */
-    private static void ideaZeros() {
-        RuleCiphers cabinet = Cabinet.keyed(0, 4, 0, 0);
-        Check.same("7: zeros on", 0x0001000100000000L, cabinet.block(0, false, 0));
-        Check.same("7: zeros back", 0x0001000100000000L, cabinet.block(0, true, 0));
-        long[] blocks = {0, 1, -1, 0x8000000000000000L, 0x0000ffff0000ffffL, 0xffff0000ffff0000L, 0x0001000100010001L};
-        long[] halves = {0, -1, 1, 0x0001000000000000L, 0xffff000000000000L, 0x0000ffff0001fffeL};
+    /** "BACK is what ON makes undone." */
+    private static void backUndoesOn() {
+        for (int cipher = 0; cipher < 5; cipher++) {
+            long block = 1;
+            for (int round = 0; round < 40; round++) {
+                thereAndBack(Cabinet.keyed(0, cipher, block * 31, ~block), "cipher " + cipher, block);
+                block = Cabinet.on(cipher, block);
+            }
+        }
+    }
+
+    private static void thereAndBack(RuleCiphers cabinet, String what, long block) {
+        Check.same("7: back of on, " + what, block, cabinet.block(0, true, cabinet.block(0, false, block)));
+        Check.same("7: on of back, " + what, block, cabinet.block(0, false, cabinet.block(0, true, block)));
+    }
+
+    /** BACK of cipher 4 needs the inverse of every word, of 0 (which stands for 65536), 1 and 65535, too. */
+    private static void backUndoesOnWhereProductsMeetZero() {
+        long[] blocks = {0, 1, -1, Long.MIN_VALUE, 0x0000ffff0000ffffL, 0xffff0000ffff0000L, 0x0001000100010001L};
+        long[] halves = {0, -1, 1, 0x0001000000000000L, 0xffff000000000000L, 0x0000ffff0001fffeL, 0x0002000100000003L};
         for (long first : halves) {
             for (long second : halves) {
-                RuleCiphers keyed = Cabinet.keyed(0, 4, first, second);
                 for (long block : blocks) {
-                    Check.same("7: there and back", block, keyed.block(0, true, keyed.block(0, false, block)));
-                    Check.same("7: back and there", block, keyed.block(0, false, keyed.block(0, true, block)));
+                    thereAndBack(Cabinet.keyed(0, 4, first, second), "cipher 4", block);
                 }
             }
         }
     }
 
-    private static void backUndoesOn() {
-        for (int cipher = 0; cipher < 5; cipher++) {
-            long block = 1;
-            for (int round = 0; round < 40; round++) {
-                RuleCiphers cabinet = Cabinet.keyed(0, cipher, block * 31, ~block);
-                long on = cabinet.block(0, false, block);
-                Check.same("7: back of on, cipher " + cipher, block, cabinet.block(0, true, on));
-                long back = cabinet.block(0, true, block);
-                Check.same("7: on of back, cipher " + cipher, block, cabinet.block(0, false, back));
-                block = on;
+    /** Promise 7: answers when "KEYED or SET", whatever the mode. */
+    private static void blockWhenKeyedAndWhenSet() {
+        for (int scene = Scene.KEYED; scene < Scene.COUNT; scene++) {
+            RuleCiphers cabinet = new RuleCiphers();
+            Scene.play(cabinet, scene);
+            String when = " when " + Scene.name(scene);
+            Check.same("7: on" + when, Cabinet.on(3, 9), cabinet.block(0, false, 9));
+            Check.same("7: back" + when, Cabinet.back(3, 9), cabinet.block(0, true, 9));
+        }
+    }
+
+    /** Promise 7: "nothing of the mode changes". */
+    private static void blockChangesNothing() {
+        for (int scene = Scene.KEYED; scene < Scene.COUNT; scene++) {
+            int here = scene;
+            for (long block : new long[] {0, -1, Scene.START}) {
+                String what = "7: block when " + Scene.name(scene);
+                Twins.unchanged(what + ", on", Cabinet.on(3, block), x -> Scene.play(x, here),
+                        x -> x.block(0, false, block));
+                Twins.unchanged(what + ", back", Cabinet.back(3, block), x -> Scene.play(x, here),
+                        x -> x.block(0, true, block));
             }
         }
     }
 
-    private static void blockLeavesTheMode() {
-        for (int mode = 0; mode < 5; mode++) {
-            RuleCiphers disturbed = Cabinet.set(0, 3, mode, 4);
-            RuleCiphers left = Cabinet.set(0, 3, mode, 4);
-            int many = mode < 2 ? 8 : 5;
-            disturbed.feed(0, false, 0, many);
-            left.feed(0, false, 0, many);
-            disturbed.block(0, false, 8);
-            disturbed.block(0, true, 9);
-            Check.same("7: fed goes on", left.feed(0, false, 8, 16), disturbed.feed(0, false, 8, 16));
-            Check.same("7: the mode goes on", Cabinet.buffer(left), Cabinet.buffer(disturbed));
-        }
-    }
-
-    private static void blockWrongly() {
-        RuleCiphers cabinet = new RuleCiphers();
-        for (int none : Cabinet.NO_CONTEXTS) {
-            Check.outOfBounds("7: no such context", () -> cabinet.block(none, false, 0));
-            Check.outOfBounds("7: no such context, back", () -> cabinet.block(none, true, 0));
-        }
-        Check.badState("7: free", () -> cabinet.block(0, false, 0));
-        cabinet.choose(0, 0);
-        Check.badState("7: chosen", () -> cabinet.block(0, false, 0));
-        Check.badState("7: chosen, back", () -> cabinet.block(0, true, 0));
-        Check.same("7: still chosen", RuleCiphers.CHOSEN, cabinet.stage(0));
-    }
-
-    private static void wordEnds() {
+    /** Promise 8: "Word i of the schedule", at both of its ends. */
+    private static void firstAndLastWord() {
+        int[] first = {0x33347b7a, 0x1234567, 0x76543210, 0x76543210, 0x123};
+        int[] last = {0x841b9079, 0x76543210, 0xf3714aa0, 0x25463049, 0xb72e};
         for (int cipher = 0; cipher < 5; cipher++) {
-            // A key of zeros gives no word that happens to be -1 at the ends.
-            RuleCiphers cabinet = Cabinet.keyed(2, cipher, 0, 0);
+            RuleCiphers cabinet = Cabinet.keyed(2, cipher, Cabinet.FIRST, Cabinet.SECOND);
             int count = WORD_COUNTS[cipher];
-            Check.same("8: word 0 is there", 0, cabinet.word(2, 0) == RuleCiphers.NONE ? 1 : 0);
-            Check.same("8: the last word is there", 0, cabinet.word(2, count - 1) == RuleCiphers.NONE ? 1 : 0);
-            for (int none : new int[] {-1, count, count + 1, Integer.MIN_VALUE, Integer.MAX_VALUE}) {
-                Check.same("8: no word " + none, RuleCiphers.NONE, cabinet.word(2, none));
+            Check.same("8: word 0 of cipher " + cipher, first[cipher], cabinet.word(2, 0));
+            Check.same("8: last word of cipher " + cipher, last[cipher], cabinet.word(2, count - 1));
+        }
+    }
+
+    /** Promise 8: "NONE when there is no such one". */
+    private static void noSuchWord() {
+        for (int cipher = 0; cipher < 5; cipher++) {
+            int count = WORD_COUNTS[cipher];
+            for (int none : new int[] {-1, -2, count, count + 1, 64, 256, Integer.MIN_VALUE, Integer.MAX_VALUE}) {
+                RuleCiphers cabinet = Cabinet.keyed(2, cipher, 0, 0);
+                Check.same("8: word " + none + " of cipher " + cipher, RuleCiphers.NONE, cabinet.word(2, none));
             }
         }
     }
 
-    private static void wordWrongly() {
-        RuleCiphers cabinet = new RuleCiphers();
-        for (int none : Cabinet.NO_CONTEXTS) {
-            Check.outOfBounds("8: no such context", () -> cabinet.word(none, 0));
-            Check.outOfBounds("8: no such context, no such word", () -> cabinet.word(none, -1));
+    /** A context that ran a cipher with more words before has only those of its cipher now. */
+    private static void wordWhenKeyedAndWhenSet() {
+        for (int scene = Scene.KEYED; scene < Scene.COUNT; scene++) {
+            RuleCiphers cabinet = Cabinet.keyed(0, 4, 0, 0);
+            cabinet.free(0);
+            Scene.play(cabinet, scene);
+            String when = " when " + Scene.name(scene);
+            Check.same("8: first word" + when, 0x76543210, cabinet.word(0, 0));
+            Check.same("8: fourth word" + when, 0x01234567, cabinet.word(0, 3));
+            Check.same("8: word 44 of 44" + when, RuleCiphers.NONE, cabinet.word(0, 44));
         }
-        Check.badState("8: free", () -> cabinet.word(0, 0));
-        cabinet.choose(0, 4);
-        Check.badState("8: chosen", () -> cabinet.word(0, 0));
-        Check.badState("8: chosen, no such word", () -> cabinet.word(0, 99));
-        cabinet.key(0, 0x0007000000000000L, 0);
-        cabinet.mode(0, 0, 0);
-        Check.same("8: when SET", 7, cabinet.word(0, 0));
+    }
+
+    private static void wordChangesNothing() {
+        for (int scene = Scene.KEYED; scene < Scene.COUNT; scene++) {
+            int here = scene;
+            String what = "8: word when " + Scene.name(scene);
+            Twins.unchanged(what, 0x76543210, x -> Scene.play(x, here), x -> x.word(0, 0));
+            Twins.unchanged(what, RuleCiphers.NONE, x -> Scene.play(x, here), x -> x.word(0, -1));
+            Twins.unchanged(what, RuleCiphers.NONE, x -> Scene.play(x, here), x -> x.word(0, 44));
+        }
     }
 }

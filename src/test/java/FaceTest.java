@@ -19,7 +19,7 @@ final class FaceTest {
         constants();
         methods();
         nothingElse();
-        noLibrary();
+        sourceKeepsToTheLanguage();
         Check.end();
     }
 
@@ -96,10 +96,14 @@ final class FaceTest {
         Check.same("the constructor is public", Modifier.PUBLIC, constructors[0].getModifiers());
     }
 
-    private static void noLibrary() throws IOException {
-        String source = Files.readString(Path.of("src/main/java/RuleCiphers.java"));
-        for (String word : new String[] {"import ", "package ", "java.", "System.", "synchronized", "->", "::"}) {
-            Check.same("the source holds '" + word + "'", 0, source.contains(word) ? 1 : 0);
+    /** The rules of ../shared/LANGUAGE.md that a look at the source's lines can tell. */
+    private static void sourceKeepsToTheLanguage() throws IOException {
+        Set<String> allowed = Set.of("import java.util.ArrayList;", "import java.util.List;",
+                "import java.util.Arrays;", "import java.util.Iterator;", "import java.util.NoSuchElementException;");
+        for (String line : Files.readAllLines(Path.of("src/main/java/RuleCiphers.java"))) {
+            boolean outside = line.startsWith("import ") && !allowed.contains(line);
+            Check.same("outside the language: " + line, 0, outside || line.startsWith("package ") ? 1 : 0);
+            Check.same("a method reference: " + line, 0, line.contains("::") ? 1 : 0);
         }
     }
 }
